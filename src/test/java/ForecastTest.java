@@ -90,6 +90,13 @@ public final class ForecastTest {
         head.addFeeder(61, 5, 9, 0, 0);
         head.addFeeder(60, 5, 9, 0, 0);
         Check.due("choice(0, 5), the nearest", head.choice(0, 5), 1);
+        GossipHead trusting = oneNozzle(1);
+        trusting.set(4, 0);
+        trusting.set(2, 1);
+        trusting.tour(1);
+        trusting.addFeeder(20, 0, 9, 0, 0);
+        Check.due("choice(0, 0), trusted by 1 more", trusting.choice(0, 0), 0);
+        Check.due("choice(1, 0), the nearest", trusting.choice(1, 0), 1);
         head.fit(0, 0);
         Check.due("choice(0, 5), no matter what fits", head.choice(0, 5), 1);
         head.fill(0, 1);
@@ -111,6 +118,9 @@ public final class ForecastTest {
         for (int nozzle = 0; nozzle < 4; nozzle++) {
             Check.due("aim without places", head.aim(nozzle), -1);
         }
+        GossipHead bare = new GossipHead();
+        bare.addPlace(0, 0);
+        Check.due("aim(0) without feeders", bare.aim(0), -1);
         head.addFeeder(0, 0, 9, 0, 0);
         head.addFeeder(0, 1, 9, 0, 0);
         head.addFeeder(0, 2, 0, 0, 0);
@@ -281,6 +291,25 @@ public final class ForecastTest {
         head.tour(1);
         // Nozzle 0 trusts 2 by 55, nozzle 3 by 44.
         Check.due("rumored(), missed", head.rumored(), 2);
+        for (int nozzle = 0; nozzle < 4; nozzle++) {
+            rumoredBy(nozzle, 0, 100);
+            rumoredBy(nozzle, 100, 0);
+        }
+    }
+
+    /** One nozzle alone, whichever it is, thinks better or worse of feeder 1 than the others. */
+    private static void rumoredBy(int only, int miss, int sight) {
+        GossipHead head = new GossipHead();
+        head.set(4, 0);
+        head.set(3, sight);
+        head.addFeeder(0, 1, 9, 0, 0);
+        head.addFeeder(0, 0, 9, miss, 0);
+        head.addPlace(0, 0);
+        for (int nozzle = 0; nozzle < 4; nozzle++) {
+            head.fit(nozzle, nozzle == only ? 1 : 0);
+        }
+        head.tour(1);
+        Check.due("rumored() by nozzle " + only, head.rumored(), 1);
     }
 
     private static void missShare() {
@@ -311,6 +340,12 @@ public final class ForecastTest {
         bad.addPlace(0, 0);
         bad.tour(1);
         Check.dueDouble("missShare() of misses alone", bad.missShare(), 1.0);
+        GossipHead once = new GossipHead();
+        once.set(0, 0);
+        once.addFeeder(0, 0, 9, 100, 0);
+        once.addPlace(0, 0);
+        once.tour(1);
+        Check.dueDouble("missShare() of one try", once.missShare(), 1.0);
     }
 
     private static void nothingIsChanged() {

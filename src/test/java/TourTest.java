@@ -15,6 +15,7 @@ public final class TourTest {
         looksByNozzles();
         gossip();
         gossipIsCutTowardsZero();
+        gossipNearOne();
         partsRunOut();
         nextFeederAfterMiss();
         undoneAsOne();
@@ -337,6 +338,25 @@ public final class TourTest {
         int[] second = {52, 51, 50, 50};
         for (int nozzle = 0; nozzle < 4; nozzle++) {
             Check.due("trust of " + nozzle + ", negative", other.trust(nozzle, 0), second[nozzle]);
+        }
+    }
+
+    /** 50 and 0: 50 * 4 / 200 is just 1, and 50 * 3 / 200 is cut to 0. */
+    private static void gossipNearOne() {
+        for (int gossip = 3; gossip <= 4; gossip++) {
+            GossipHead head = quietHead();
+            head.set(1, 50);
+            head.addFeeder(0, 0, 9, 100, 0);
+            head.addPlace(0, 0);
+            head.tour(1);
+            head.fit(0, 0);
+            for (int nozzle = 1; nozzle < 4; nozzle++) {
+                head.fit(nozzle, 0);
+            }
+            head.set(4, gossip);
+            head.tour(1);
+            Check.due("trust of 0", head.trust(0, 0), gossip - 3);
+            Check.due("trust of 1", head.trust(1, 0), 50 - (gossip - 3));
         }
     }
 
