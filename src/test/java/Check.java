@@ -5,14 +5,34 @@ final class Check {
     }
 
     private static int wrong = 0;
+    private static int checks = 0;
+    private static String sentence = "";
 
     private Check() {
     }
 
+    /** The sentence of the document that the next checks are about; a sentence without one is a fault. */
+    static void sentence(String words) {
+        endSentence();
+        sentence = words;
+        checks = 0;
+    }
+
+    private static void endSentence() {
+        if (!sentence.isEmpty() && checks == 0) {
+            fault("nothing was checked");
+        }
+    }
+
+    private static void fault(String words) {
+        wrong++;
+        System.out.println((sentence.isEmpty() ? "" : "[" + sentence + "] ") + words);
+    }
+
     static void due(String call, long got, long want) {
+        checks++;
         if (got != want) {
-            wrong++;
-            System.out.println(call + " answered " + got + ", due is " + want);
+            fault(call + " answered " + got + ", due is " + want);
         }
     }
 
@@ -29,9 +49,9 @@ final class Check {
         } catch (RuntimeException thrown) {
             got = thrown.getClass();
         }
+        checks++;
         if (got != want) {
-            wrong++;
-            System.out.println(call + " threw " + got + ", due is " + want);
+            fault(call + " threw " + got + ", due is " + want);
         }
         due("digest() behind the refused " + call, head.digest(), before);
     }
@@ -68,6 +88,7 @@ final class Check {
     }
 
     static void finish() {
+        endSentence();
         System.out.println(wrong == 0 ? "all answers are as due" : wrong + " answers are not as due");
         if (wrong != 0) {
             System.exit(1);
