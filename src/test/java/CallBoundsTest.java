@@ -188,7 +188,12 @@ public final class CallBoundsTest {
             Bench.addPlaces(head, 23);
             Check.due("clear() of 24 empty places", head.clear(), 0);
             head.tour(6);
+            head.set(1, 50);
+            int time = head.count(2);
             Check.due("clear() of 24 places", head.clear(), turn == 0 ? 24 : 0);
+            Check.due("time, as no inspection", head.count(2), time);
+            Check.due("found wrong, as no inspection", head.count(11), 0);
+            Check.due("trust, as no inspection", head.feeder(0, 8), 200);
             Check.due("empty", head.count(6), 24);
             Check.due("nozzle of 23", head.place(23, 3), -1);
             Check.due("feeder of 23", head.place(23, 4), -1);

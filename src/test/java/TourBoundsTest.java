@@ -683,6 +683,13 @@ public final class TourBoundsTest {
         Check.due("time with a wrong place", wrong.count(2), 2 + 1 + 10);
         wrong.inspect();
         Check.due("time of two", wrong.count(2), 2 + 1 + 20);
+        GossipHead most = Bench.pair(0, 100);
+        most.set(3, 0);
+        Bench.addPlaces(most, 23);
+        most.tour(6);
+        int time = most.count(2);
+        Check.due("inspect()", most.inspect(), 24);
+        Check.due("time with 24 wrong places", most.count(2), time + 10);
         Check.due("distance", wrong.count(4), 0);
         Check.due("seed", wrong.count(3), new Draws().seedAfter(3));
     }
