@@ -285,14 +285,13 @@ public final class GossipHead {
 
     public int needed() {
         trial.copyFrom(now);
-        for (int tours = 0; tours <= MOST_NEEDED; tours++) {
-            if (trial.placesWith(RIGHT) == trial.placeCount) {
-                return tours;
-            }
+        int tours = 0;
+        while (tours < MOST_NEEDED && !trial.allRight()) {
             route.make(trial, 1);
             trial.takeOffWrong();
+            tours++;
         }
-        return NONE;
+        return trial.allRight() ? tours : NONE;
     }
 
     public int rumored() {
@@ -560,6 +559,10 @@ public final class GossipHead {
                 }
             }
             return found;
+        }
+
+        boolean allRight() {
+            return placesWith(RIGHT) == placeCount;
         }
 
         int misses() {
